@@ -31,6 +31,8 @@ public final class ScratchLadder {
     private static final int IMAGES = 2;
     private static final int HIGHEST_LOAD = 100;
     private static final int BEYOND_RUNGS = 1001;
+    /** Greater than any number that is compared with it. */
+    private static final int BEYOND_ALL = 1 << 30;
 
     private static final int NOTHING = 0;
     private static final int GROOVE = 1;
@@ -392,7 +394,7 @@ public final class ScratchLadder {
             return NONE;
         }
         int trials = sorter.trialsNeeded();
-        return what == 0 ? trials : sorter.firstTrial(trials);
+        return what == 0 ? trials : sorter.firstTrial();
     }
 
     /** CHOICE: the sum, or the STONES as bits. */
@@ -1137,7 +1139,7 @@ public final class ScratchLadder {
 
     /** What the LAW is asked of, and what it tells there. */
     private static final class Question {
-        private static final long BROKEN = Long.MIN_VALUE;
+        private static final long BROKEN = 1L << 62;
         private static final long WIDEST = 1000000000L;
         private static final int GREATEST_TOLD = 255;
 
@@ -1445,7 +1447,7 @@ public final class ScratchLadder {
         }
 
         private int least(int rest) {
-            int least = Integer.MAX_VALUE;
+            int least = BEYOND_ALL;
             for (int x = 0; x < bench.stones; x++) {
                 if ((rest >> x & 1) == 1) {
                     least = Math.min(least, withFirst(x, rest));
@@ -1537,8 +1539,6 @@ public final class ScratchLadder {
 
     /** All STONES in a row by a key, the least first, of alike ones by number. */
     private static final class Lineup {
-        private static final int WITHOUT = Integer.MAX_VALUE;
-
         private final Bench bench;
         private final Question question;
         private final int[] keys = new int[MAX_STONES];
@@ -1570,7 +1570,7 @@ public final class ScratchLadder {
                 }
             }
             for (int stone = 0; stone < bench.stones; stone++) {
-                keys[stone] = loads[stone] == 0 ? WITHOUT : depths[stone] * 100 / loads[stone];
+                keys[stone] = loads[stone] == 0 ? BEYOND_ALL : depths[stone] * 100 / loads[stone];
             }
             sort();
         }
@@ -1697,6 +1697,7 @@ public final class ScratchLadder {
         private final int[] rows = new int[1 << MAX_TOLD];
         private int size = 0;
         private int start = 0;
+        private int firstPair = NONE;
 
         /** Whether the told STONES, 2 to 5, can be sorted: none is OVER itself. */
         boolean take(int stones, Ties ties) {
@@ -1721,54 +1722,51 @@ public final class ScratchLadder {
             return true;
         }
 
+        /** How many trials are enough; the first pair with which they are is kept. */
         int trialsNeeded() {
+            firstPair = NONE;
+            int left = rowsLeft(start);
+            int needed = 0;
             int pairs = size * (size - 1) / 2;
-            for (int trials = 0; trials < pairs; trials++) {
-                if (areEnough(start, trials)) {
-                    return trials;
-                }
+            while (left > 1 && firstPair == NONE && needed < pairs) {
+                needed++;
+                firstPair = goodPair(start, left, needed);
             }
-            return pairs;
+            return needed;
         }
 
-        /** The lowest first trial behind which the rest of them are enough. */
-        int firstTrial(int trials) {
-            if (trials > 0) {
-                for (int i = 0; i < size; i++) {
-                    for (int j = i + 1; j < size; j++) {
-                        if (isGood(start, i, j, trials)) {
-                            return told[i] * MAX_STONES + told[j];
-                        }
+        /** The first trial of those that trialsNeeded() found. */
+        int firstTrial() {
+            return firstPair == NONE ? NONE
+                    : told[firstPair / MAX_TOLD] * MAX_STONES + told[firstPair % MAX_TOLD];
+        }
+
+        /** The lowest pair with which so many trials sort the rows that are left; NONE without. */
+        private int goodPair(int relation, int left, int trials) {
+            for (int i = 0; i < size; i++) {
+                for (int j = i + 1; j < size; j++) {
+                    if (!isOver(relation, i, j) && !isOver(relation, j, i)
+                            && isGood(relation, left, i, j, trials)) {
+                        return i * MAX_TOLD + j;
                     }
                 }
             }
             return NONE;
         }
 
-        /** Each level has a trial fewer than the one above it, so it goes ten deep at most. */
-        private boolean areEnough(int relation, int trials) {
-            int left = rowsLeft(relation);
-            if (left <= 1) {
-                return true;
-            }
+        private boolean isGood(int relation, int left, int i, int j, int trials) {
+            int above = with(relation, i, j);
+            int leftAbove = rowsLeft(above);
             // A trial can't do better than halve the rows.
-            if (left > 1 << trials) {
-                return false;
-            }
-            for (int i = 0; i < size; i++) {
-                for (int j = i + 1; j < size; j++) {
-                    if (isGood(relation, i, j, trials)) {
-                        return true;
-                    }
-                }
-            }
-            return false;
+            int most = 1 << trials - 1;
+            return leftAbove <= most && left - leftAbove <= most
+                    && areEnough(above, leftAbove, trials - 1)
+                    && areEnough(with(relation, j, i), left - leftAbove, trials - 1);
         }
 
-        private boolean isGood(int relation, int i, int j, int trials) {
-            return !isOver(relation, i, j) && !isOver(relation, j, i)
-                    && areEnough(with(relation, i, j), trials - 1)
-                    && areEnough(with(relation, j, i), trials - 1);
+        /** Each level has a trial fewer than the one before it, so it goes ten deep at most. */
+        private boolean areEnough(int relation, int left, int trials) {
+            return left <= 1 || trials > 0 && goodPair(relation, left, trials) != NONE;
         }
 
         private static boolean isOver(int relation, int i, int j) {
@@ -1878,7 +1876,7 @@ public final class ScratchLadder {
         }
 
         private int nextNumber(int above) {
-            int least = Integer.MAX_VALUE;
+            int least = BEYOND_ALL;
             for (int stone = 0; stone < bench.stones; stone++) {
                 int number = bench.knownNumber(stone);
                 if (number > above) {
