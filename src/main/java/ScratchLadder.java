@@ -644,14 +644,12 @@ public final class ScratchLadder {
             System.arraycopy(from, 0, to, 0, Math.min(from.length, to.length));
         }
 
+        /** POINT and PLANES are 0 where no STONE is: copyFrom() takes whole rows. */
         int addStone(int name, int piecesOfIt, int usesLeft) {
             int stone = stones;
             names[stone] = name;
             pieces[stone] = piecesOfIt;
             uses[stone] = usesLeft;
-            // After a way back, an earlier STONE of this number may have left its own here.
-            points[stone] = 0;
-            Arrays.fill(planes, stone * SPOTS, (stone + 1) * SPOTS, 0);
             stones++;
             return stone;
         }
@@ -1867,9 +1865,7 @@ public final class ScratchLadder {
                 number = nextNumber(number);
                 int names = namesKnownAs(number);
                 boolean isKeepers = keeper != NOBODY && bench.knownNumber(keeper) == number;
-                int must = isKeepers ? 1 << keeper : 0;
-                int mayNot = isKeepers || keeper == NOBODY ? 0 : 1 << keeper;
-                giveOut(given, names, must, mayNot);
+                giveOut(given, names, isKeepers ? 1 << keeper : 0);
                 given += names;
             }
             return rows[(1 << bench.stones) - 1];
@@ -1896,7 +1892,8 @@ public final class ScratchLadder {
             return names;
         }
 
-        private void giveOut(int given, int names, int must, int mayNot) {
+        /** Each set of STONES that have their NAMES takes so many more, those that must among them. */
+        private void giveOut(int given, int names, int must) {
             int ways = 1;
             for (int i = 2; i <= names; i++) {
                 ways *= i;
@@ -1905,7 +1902,7 @@ public final class ScratchLadder {
                 if (rows[lower] == 0 || Integer.bitCount(lower) != given) {
                     continue;
                 }
-                int ready = readyAfter(lower) & ~mayNot;
+                int ready = readyAfter(lower);
                 for (int taken = ready; taken > 0; taken = taken - 1 & ready) {
                     if (Integer.bitCount(taken) == names && (taken & must) == must) {
                         rows[lower | taken] += rows[lower] * ways;

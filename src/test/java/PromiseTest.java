@@ -183,6 +183,17 @@ public final class PromiseTest {
         z.seed(0);
         z.hand(0, 0, 45);
         due(14, "45 is not below 45", z.trial(0, 1, 0, 0, 0, 1), 0);
+        // With 1 there is a draw too: the next one after it is not 45.
+        for (int[] slipAndDust : new int[][] {{1, 0}, {0, 1}}) {
+            ScratchLadder v = stones(2);
+            v.hand(0, slipAndDust[0], slipAndDust[1]);
+            due(14, "45 is not below 1", v.trial(0, 1, 0, 0, 0, 1), 0);
+            v.hand(0, 0, 46);
+            due(14, "the second draw", v.trial(0, 1, 0, 0, 0, 1), second < 46 ? 2 : 0);
+            v.hand(0, 0, (int) second + 1);
+            v.seed(12345);
+            due(14, "the second draw", v.trial(0, 1, 0, 0, 0, 1), 2);
+        }
     }
 
     private static void tapes() {
@@ -254,6 +265,8 @@ public final class PromiseTest {
         reads("cuts if " + times("(", 4) + times("[", 4) + "1" + times("]", 4) + "=1"
                 + times(")", 4));
         reads("cuts if " + times("not ", 95) + "1=1");
+        reads("cuts if (1=1)" + times(" or (1=1)", 12));
+        reads("cuts if [1]=1" + times(" and [1]=1", 12));
         fault("", 0);
         fault("   ", 3);
         fault("cuts;", 5);
@@ -261,6 +274,11 @@ public final class PromiseTest {
         fault(";cuts", 0);
         fault("Cuts", 0);
         fault("cutsif 1=1", 0);
+        fault("cutsz", 0);
+        fault("acuts", 0);
+        fault("buts", 0);
+        fault("cutt", 0);
+        fault("deep xoad", 5);
         fault("cuts 5", 5);
         fault("cuts if", 7);
         fault("cuts if 1=1 2", 12);
@@ -317,8 +335,18 @@ public final class PromiseTest {
         due(11, "its place", y.fault(), 5);
         due(10, "a good one", write(y, "cuts"), 0);
         due(11, "no fault", y.fault(), -1);
+        for (int i = 0; i < 10; i++) {
+            write(y, "cuts if ((((([");
+            due(11, "open brackets", y.fault(), 14);
+        }
+        due(10, "are forgotten", write(y, "deep " + times("[", 8) + "1" + times("]", 8)), 1);
+        y.image(0);
+        for (int i = 0; i < 60; i++) {
+            y.back(0);
+            due(10, "one more", write(y, "deep 1" + times("+1", 49)), 2);
+        }
         // 400 bytes at once.
-        due(10, "400 bytes", write(y, "cuts" + times(" ", 391) + ";both"), 1);
+        due(10, "400 bytes", write(y, "cuts" + times(" ", 391) + ";both"), 3);
     }
 
     private static void laws() {
@@ -606,8 +634,13 @@ public final class PromiseTest {
         due(27, "1 over 3", x.drop(0), 3);
         due(27, "no other", x.drop(1), -1);
         due(27, "below", x.drop(-1), -1);
-        due(36, "says", x.slips(0, 0), 5);
-        due(36, "against", x.slips(0, 1), 1);
+        above(x, 1, 0);
+        above(x, 1, 2);
+        due(27, "the second of three", x.drop(1), 5);
+        due(27, "the third of three", x.drop(2), 6);
+        due(27, "no fourth", x.drop(3), -1);
+        due(36, "says", x.slips(0, 0), 7);
+        due(36, "against", x.slips(0, 1), 3);
         due(36, "another hand", x.slips(1, 0), 0);
         due(36, "no hand", x.slips(4, 0), -1);
         due(36, "no hand", x.slips(-1, 0), -1);
@@ -625,6 +658,16 @@ public final class PromiseTest {
         due(36, "but says", y.slips(0, 0), 1);
         due(25, "anew", y.best(), 0);
         due(26, "anew", y.place(2), 0);
+        ScratchLadder v = stones(2);
+        v.image(0);
+        v.stone(5, 1, 1);
+        v.best();
+        v.back(0);
+        v.best();
+        v.stone(5, 1, 1);
+        above(v, 2, 0);
+        due(27, "no longer in it", v.drop(0), -1);
+        due(36, "no longer in it", v.slips(0, 1), 0);
         ScratchLadder z = stones(12);
         for (int i = 0; i < 12; i++) {
             for (int j = 0; j < i; j++) {
@@ -667,6 +710,11 @@ public final class PromiseTest {
         due(28, "no what", x.span(0, -1), -1);
         due(29, "no stone", x.settle(7), -1);
         due(29, "no stone", x.settle(LOW), -1);
+        ScratchLadder z = stones(5);
+        rule(z, "rung 8 is 0;rung 7 is 1;rung 6 is 2;rung 7 is 3");
+        due(29, "6, 7, 7, 8", z.settle(4), 1);
+        above(z, 4, 2);
+        due(29, "7, 7, 8, as told", z.settle(4), 3);
         ScratchLadder y = stones(2);
         rule(y, "rung 1000 is 0;rung 0 is 0");
         due(29, "1000 is below 1001, 0 is not above 0", y.settle(1), 0);
@@ -756,7 +804,7 @@ public final class PromiseTest {
         x.point(1, 9);
         x.plane(2, 0, 0, 4);
         x.plane(3, 0, 1, 500);
-        rule(x, "dent point*load+plane+hand;dent 255 if corner=3 and stone=3 and face+way=0 and load=9");
+        rule(x, "dent point*load+plane;dent 0 if hand>0;dent 255 if corner=3 and stone=3 and face+way=0 and load=9");
         int[] one = {3, 0, 2, 1};
         for (int i = 0; i < 4; i++) {
             due(32, "under 1", x.dents(1, i), one[i]);
@@ -965,6 +1013,64 @@ public final class PromiseTest {
         x.hand(1, 0, 61);
         rule(x, "rung 1 is 1");
         due(41, "draws", x.trial(0, 1, 0, 0, 1, 1), 2);
+        ScratchLadder y = new ScratchLadder();
+        y.known(1, 10);
+        y.known(2, 20);
+        y.image(0);
+        y.stone(1, 2, 1);
+        y.stone(2, 3, 1);
+        above(y, 1, 0);
+        y.view(1, 1, 1);
+        rule(y, "rung 5 is 0");
+        y.image(1);
+        y.back(0);
+        y.stone(2, 50, 1);
+        y.stone(1, 60, 1);
+        y.view(6, 14, 14);
+        y.law(write(y, "cuts"));
+        y.back(1);
+        y.best();
+        due(41, "names", y.lose(), 0);
+        due(41, "pieces", y.choice(1, 0), 6);
+        due(41, "the text of that number", y.span(1, 0), 5);
+        due(41, "view", y.says(1, 0), 1);
+    }
+
+    /** Each call with as many STONES and TRIALS as there can be. */
+    private static void full() {
+        ScratchLadder x = stones(12);
+        for (int i = 0; i < 120; i++) {
+            row(x, i % 12, (i + 1 + i / 12) % 12, 2, 3, 3, 1, 255);
+        }
+        rule(x, "cuts;dent 1;rung 1 is 11");
+        due(42, "trials", x.count(2), 120);
+        due(42, "uses", x.count(3), 2400);
+        due(16, "the last", x.of(119, 1), (11 + 1 + 9) % 12);
+        due(18, "all count", x.view(7, 15, 15), 120);
+        due(18, "none counts", x.view(3, 15, 15), 0);
+        x.best();
+        x.view(7, 15, 15);
+        due(27, "none behind the last", x.drop(120), -1);
+        int against = x.slips(3, 1);
+        due(36, "all say something", x.slips(3, 0), 120);
+        due(27, "the last one against", x.drop(against - 1) >= 0 ? 1 : 0, 1);
+        due(27, "no more", x.drop(against), -1);
+        due(39, "alike all", x.lose(), 120);
+        due(32, "the last", x.dents(1, 11), 11);
+        due(33, "the last", x.grooves(11), 11);
+        due(34, "none", x.otherwise(0) + x.otherwise(1), 0);
+        due(35, "all but one", x.shapes(11, 15), 2047);
+        due(37, "the lowest", x.glass(11, 10, 0), 0);
+        due(23, "the ring", x.ring(11), 2);
+        due(20, "over all", x.over(11, 11), 1);
+        due(21, "none fits", x.orders(), 0);
+        due(24, "all of them tried", x.untried(), 0);
+        due(31, "all", x.choice(12, 1), 4095);
+        due(28, "in a ring", x.span(11, 0) * 10000 + x.span(11, 1), 10001);
+        due(30, "over itself", x.fewest(31, 0), -1);
+        due(38, "too many", x.called(0), -1);
+        due(41, "kept and back", x.image(1) + x.back(1), 0);
+        due(26, "the last", x.place(11), 11);
     }
 
     private static void countAndStatus() {
@@ -1034,6 +1140,7 @@ public final class PromiseTest {
         shapesAndGlass();
         names();
         images();
+        full();
         countAndStatus();
         System.out.println(asked + " answers, " + wrong + " of them not as due");
         if (wrong > 0) {
