@@ -580,6 +580,10 @@ public final class ScratchLadder {
         return now.hasStone(a) && now.hasStone(b) && a != b;
     }
 
+    private static int numberAt(int[] numbers, int at) {
+        return within(at, 0, numbers.length - 1) ? numbers[at] : NONE;
+    }
+
     private static int exchange(int[] numbers, int at, int number) {
         int was = numbers[at];
         numbers[at] = number;
@@ -784,16 +788,16 @@ public final class ScratchLadder {
         }
 
         int clause(int number, int what) {
-            return clauses[number * WIDTH + what];
+            return numberAt(clauses, number * WIDTH + what);
         }
 
         /** Step i has its kind at 2 * i and its argument behind it. */
         int kindOfStep(int i) {
-            return steps[2 * i];
+            return numberAt(steps, 2 * i);
         }
 
         int argument(int i) {
-            return steps[2 * i + 1];
+            return numberAt(steps, 2 * i + 1);
         }
     }
 
@@ -1244,7 +1248,7 @@ public final class ScratchLadder {
                     if (height >= stack.length) {
                         return BROKEN;
                     }
-                    stack[height] = kind == Text.NUMBER ? argument : words[argument];
+                    stack[height] = kind == Text.NUMBER ? argument : numberAt(words, argument);
                     height++;
                 } else if (height < 1) {
                     return BROKEN;
