@@ -188,8 +188,8 @@ public final class PromiseTest {
             ScratchLadder v = stones(2);
             v.hand(0, slipAndDust[0], slipAndDust[1]);
             due(14, "45 is not below 1", v.trial(0, 1, 0, 0, 0, 1), 0);
-            v.hand(0, 0, 46);
-            due(14, "the second draw", v.trial(0, 1, 0, 0, 0, 1), second < 46 ? 2 : 0);
+            v.hand(0, 0, 45);
+            due(14, "the second draw is 41", v.trial(0, 1, 0, 0, 0, 1), 2);
             v.hand(0, 0, (int) second + 1);
             v.seed(12345);
             due(14, "the second draw", v.trial(0, 1, 0, 0, 0, 1), 2);
@@ -290,6 +290,11 @@ public final class PromiseTest {
         fault("cuts if 1 or 2", 10);
         fault("cuts if 1<=2", 10);
         fault("cuts if not", 11);
+        fault("cuts if 1=", 10);
+        fault("cuts if 1=;cuts", 10);
+        fault("cuts if (", 9);
+        fault("cuts if 1=1 or", 14);
+        fault("cuts if 1=1 and;", 15);
         fault("deep", 4);
         fault("deep if", 5);
         fault("deep +1", 5);
@@ -297,6 +302,10 @@ public final class PromiseTest {
         fault("deep -1", 5);
         fault("deep (1)", 5);
         fault("deep []", 6);
+        fault("deep [", 6);
+        fault("deep [1+", 8);
+        fault("deep [1;cuts", 7);
+        fault("deep 1*", 7);
         fault("deep 100001", 5);
         fault("deep 99999999999999999999", 5);
         fault("deep 1\t", 6);
@@ -392,6 +401,9 @@ public final class PromiseTest {
         asks("not 1 = 2 and 1 = 1", 1);
         asks("not (1 = 2 and 1 = 1)", 1);
         asks("not not 1 = 2", 0);
+        asks("not 1 = 1", 0);
+        asks("not (not 1 = 1)", 1);
+        asks("not (not 1 = 2)", 0);
         asks("not 1 = 1 or 1 = 1", 1);
         asks("1 / 0 = 0", 0);
         asks("not 1 / 0 = 0", 0);
@@ -471,6 +483,13 @@ public final class PromiseTest {
             y.trial(0, 1, 0, 0, 0, 1);
         }
         due(14, "120", y.count(2), 120);
+        ScratchLadder z = stones(2);
+        z.hand(0, 100, 0);
+        due(14, "a slip without a law", z.trial(0, 1, 0, 0, 0, 9), 1);
+        due(16, "its depth", z.of(0, 6), 0);
+        rule(z, "dent 7;rung 7 is 1");
+        due(14, "a slip with one", z.trial(0, 1, 0, 0, 0, 9), 1);
+        due(16, "its depth without a deep", z.of(1, 6), 0);
         due(14, "no room", y.trial(0, 1, 0, 0, 0, 1), -5);
         due(14, "-3 ahead of -5", y.trial(1, 0, 0, 0, 0, 1), -3);
         due(14, "-1 ahead of all", y.trial(1, 0, 0, 0, 0, 0), -1);
@@ -534,6 +553,7 @@ public final class PromiseTest {
         due(18, "a way", x.view(7, 4, 15), 1);
         due(18, "two hands", x.view(7, 15, 12), 2);
         due(18, "nothing", x.view(1, 1, 15), 0);
+        due(18, "the least", x.view(1, 1, 1), 0);
         int[][] bad = {{0, 1, 1}, {8, 1, 1}, {1, 0, 1}, {1, 16, 1}, {1, 1, 0}, {1, 1, 16},
             {-1, 1, 1}, {LOW, HIGH, 1}};
         for (int[] b : bad) {
@@ -649,6 +669,12 @@ public final class PromiseTest {
         x.view(2, 15, 15);
         due(27, "out of view", x.drop(0), -1);
         due(36, "out of view", x.slips(0, 0), 0);
+        ScratchLadder w = stones(1);
+        due(21, "of one", w.orders(), 1);
+        due(25, "of one", w.best(), 0);
+        due(26, "of one", w.place(0), 0);
+        due(31, "of one", w.choice(1, 1), 1);
+        due(31, "no pairs", w.choice(1, 0), 0);
         ScratchLadder y = stones(2);
         y.best();
         y.stone(5, 1, 1);
@@ -710,6 +736,9 @@ public final class PromiseTest {
         due(28, "no what", x.span(0, -1), -1);
         due(29, "no stone", x.settle(7), -1);
         due(29, "no stone", x.settle(LOW), -1);
+        ScratchLadder v = stones(5);
+        rule(v, "rung 1 is 0;rung 2 is 1;rung 3 is 2");
+        due(29, "1, 2, 3", v.settle(4), 1);
         ScratchLadder z = stones(5);
         rule(z, "rung 8 is 0;rung 7 is 1;rung 6 is 2;rung 7 is 3");
         due(29, "6, 7, 7, 8", z.settle(4), 1);
@@ -944,6 +973,9 @@ public final class PromiseTest {
         z.known(0, 3);
         z.known(1, 3);
         due(38, "another name of one number is wrong", z.called(2), 3);
+        due(38, "but not in all", z.called(1), 0);
+        above(z, 0, 1);
+        due(38, "no rows", z.called(2), 0);
     }
 
     private static void images() {
