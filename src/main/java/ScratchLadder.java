@@ -580,10 +580,6 @@ public final class ScratchLadder {
         return now.hasStone(a) && now.hasStone(b) && a != b;
     }
 
-    private static int numberAt(int[] numbers, int at) {
-        return within(at, 0, numbers.length - 1) ? numbers[at] : NONE;
-    }
-
     private static int exchange(int[] numbers, int at, int number) {
         int was = numbers[at];
         numbers[at] = number;
@@ -776,7 +772,8 @@ public final class ScratchLadder {
         static final int WORDS = 8;
 
         private final int[] clauses;
-        private final int[] steps;
+        /** Step i has its kind at 2 * i and its argument behind it. */
+        final int[] steps;
 
         Text(int[] clauses, int[] steps) {
             this.clauses = clauses;
@@ -788,16 +785,8 @@ public final class ScratchLadder {
         }
 
         int clause(int number, int what) {
-            return numberAt(clauses, number * WIDTH + what);
-        }
-
-        /** Step i has its kind at 2 * i and its argument behind it. */
-        int kindOfStep(int i) {
-            return numberAt(steps, 2 * i);
-        }
-
-        int argument(int i) {
-            return numberAt(steps, 2 * i + 1);
+            int at = number * WIDTH + what;
+            return at >= 0 && at < clauses.length ? clauses[at] : NONE;
         }
     }
 
@@ -1207,7 +1196,7 @@ public final class ScratchLadder {
                 return false;
             }
             for (int clause = 0; clause < law.clauseCount(); clause++) {
-                if (law.clause(clause, Text.KIND) == kind && isSo(law, clause)) {
+                if (law.clause(clause, Text.KIND) == kind && testOf(law, clause) == 1) {
                     return true;
                 }
             }
@@ -1221,8 +1210,8 @@ public final class ScratchLadder {
                 return 0;
             }
             for (int clause = law.clauseCount() - 1; clause >= 0; clause--) {
-                if (law.clause(clause, Text.KIND) == kind && isSo(law, clause)) {
-                    long sum = worked(law, law.clause(clause, Text.SUM_AT),
+                if (law.clause(clause, Text.KIND) == kind && testOf(law, clause) == 1) {
+                    long sum = worked(law.steps, law.clause(clause, Text.SUM_AT),
                             law.clause(clause, Text.TEST_AT));
                     if (sum != BROKEN) {
                         return (int) Math.max(0L, Math.min(sum, GREATEST_TOLD));
@@ -1232,23 +1221,25 @@ public final class ScratchLadder {
             return 0;
         }
 
-        private boolean isSo(Text law, int clause) {
+        /** 1 if the TEST of a CLAUSE is so, or there is none; else 0, or BROKEN. */
+        private long testOf(Text law, int clause) {
             int from = law.clause(clause, Text.TEST_AT);
             int to = law.clause(clause, Text.ENDS_AT);
-            return from == to || worked(law, from, to) == 1;
+            return from == to ? 1 : worked(law.steps, from, to);
         }
 
         /** What the steps leave on the stack (of a TEST 1 or 0), or BROKEN. */
-        private long worked(Text law, int from, int to) {
+        private long worked(int[] steps, int from, int to) {
             int height = 0;
-            for (int i = from; i < to; i++) {
-                int kind = law.kindOfStep(i);
-                int argument = law.argument(i);
+            for (int i = Math.max(0, from); i < to && 2 * i + 1 < steps.length; i++) {
+                int kind = steps[2 * i];
+                int argument = steps[2 * i + 1];
                 if (kind == Text.NUMBER || kind == Text.WORD) {
-                    if (height >= stack.length) {
+                    if (height >= stack.length
+                            || kind == Text.WORD && !within(argument, 0, words.length - 1)) {
                         return BROKEN;
                     }
-                    stack[height] = kind == Text.NUMBER ? argument : numberAt(words, argument);
+                    stack[height] = kind == Text.WORD ? words[argument] : argument;
                     height++;
                 } else if (height < 1) {
                     return BROKEN;
