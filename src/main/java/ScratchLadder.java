@@ -632,7 +632,9 @@ public final class ScratchLadder {
             drawn = other.drawn;
             law = other.law;
             texts = other.texts;
-            System.arraycopy(other.written, 0, written, 0, MAX_TEXTS);
+            for (int text = 0; text < MAX_TEXTS; text++) {
+                written[text] = other.written[text];
+            }
             trials = other.trials;
             copyRow(other.columns, columns);
             facesSeen = other.facesSeen;
