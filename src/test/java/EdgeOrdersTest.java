@@ -200,6 +200,24 @@ public final class EdgeOrdersTest {
         Kit.due("now it is in it", x.drop(1), 5);
     }
 
+    private static void against() {
+        Kit.sentence("A TRIAL is AGAINST it, if it SAYS that a later one is above an earlier one. It FITS, if none is.");
+        ScratchLadder x = Kit.stones(3);
+        Kit.row(x, 2, 0, 0, 0, 0, 0, 0, 2, 1, 0, 0, 0, 3, 0);
+        x.best();
+        Kit.due("nothing and both are against none", x.slips(0, 1), 0);
+        Kit.due("all six fit", x.orders(), 6);
+        Kit.row(x, 0, 2, 0, 0, 0, 1, 0);
+        Kit.due("an earlier one above a later one", x.slips(0, 1), 0);
+        Kit.due("three fit", x.orders(), 3);
+        Kit.row(x, 2, 1, 0, 0, 0, 2, 0);
+        Kit.due("the last one above the next", x.slips(0, 1), 1);
+        Kit.due("one fits", x.orders(), 1);
+        Kit.row(x, 2, 0, 0, 0, 0, 2, 0);
+        Kit.due("the last one above the first", x.slips(0, 1), 2);
+        Kit.due("none fits", x.orders(), 0);
+    }
+
     private static void spans() {
         Kit.sentence("RUNGS of the LAW: STONES that are there, with numbers.");
         ScratchLadder x = Kit.stones(2);
@@ -505,6 +523,7 @@ public final class EdgeOrdersTest {
         for (int far : FAR) {
             Kit.due("far off", x.otherwise(far), -1);
         }
+        Kit.sentence("OTHERWISE: how many pairs stand otherwise than in the latest BEST.");
         ScratchLadder y = Kit.stones(1);
         Kit.rule(y, "dent 9-corner");
         y.image(0);
@@ -687,6 +706,7 @@ public final class EdgeOrdersTest {
         orders();
         best();
         drops();
+        against();
         spans();
         settles();
         fewest();

@@ -549,6 +549,35 @@ public final class EdgeTextsTest {
         Kit.due("0 if none holds", x.of(2, 6), 0);
     }
 
+    /** Each word at the least and the greatest that it can stand for, as the DEPTH of a trial. */
+    private static void words() {
+        Kit.sentence("A SUM, a TEST is asked of a corner's STONE (corner, point), another or the same one (stone, plane: of its FACE and WAY; face, way), a load, a hand.");
+        String[] words = {"point", "plane", "load", "hand", "face", "way", "corner", "stone"};
+        int[] greatest = {999, 999, 100, 3, 2, 3, 11, 0};
+        int[] least = {0, 0, 1, 0, 0, 0, 0, 11};
+        for (int i = 0; i < words.length; i++) {
+            ScratchLadder x = Kit.stones(12);
+            x.point(11, 999);
+            x.plane(0, 2, 3, 999);
+            Kit.rule(x, "cuts if " + words[i] + "=" + greatest[i]);
+            Kit.due(words[i] + " is greatest", x.trial(11, 0, 2, 3, 3, 100), 1);
+            Kit.rule(x, "cuts if " + words[i] + "=" + least[i]);
+            Kit.due(words[i] + " is least", x.trial(0, 11, 0, 0, 0, 1), 1);
+        }
+        ScratchLadder y = Kit.stones(2);
+        y.point(1, 30);
+        y.plane(1, 1, 2, 20);
+        Kit.rule(y, "cuts if corner=1 and stone=1 and point=30 and plane=20");
+        Kit.due("the same one", y.cuts(1, 1, 1, 2), 1);
+        Kit.sentence("It CUTS, if a \"cuts\" HOLDS.");
+        Kit.rule(y, "cuts if 1=2" + ";cuts if 1/0=0".repeat(10) + ";cuts");
+        Kit.due("the twelfth alone", y.cuts(0, 1, 0, 0), 1);
+        Kit.rule(y, "cuts" + ";cuts if 1=2".repeat(11));
+        Kit.due("the first alone", y.cuts(0, 1, 0, 0), 1);
+        Kit.rule(y, "cuts if 1=2" + ";cuts if 1=2".repeat(11));
+        Kit.due("none", y.cuts(0, 1, 0, 0), 0);
+    }
+
     private static void cuts() {
         Kit.sentence("Whether a corner CUTS a STONE's FACE along a WAY by the LAW (load 1, hand 0): 1, 0; NONE.");
         ScratchLadder x = Kit.stones(12);
@@ -595,6 +624,7 @@ public final class EdgeTextsTest {
         holds();
         lawAtFirst();
         depths();
+        words();
         cuts();
         Kit.end();
     }

@@ -346,6 +346,25 @@ public final class EdgeTrialsTest {
         y.view(2, 15, 15);
         Kit.row(y, 0, 1, 0, 0, 0, 1, 0, 0, 1, 1, 0, 0, 1, 0);
         Kit.due("later ones too", y.says(0, 1), 1);
+        Kit.sentence("A TRIAL COUNTS, if it did not fall out and its three are in VIEW.");
+        ScratchLadder z = Kit.stones(2);
+        Kit.row(z, 0, 1, 1, 2, 3, 2, 0);
+        int[][] without = {{5, 15, 15}, {7, 11, 15}, {7, 15, 7}};
+        for (int[] w : without) {
+            Kit.due("two of the three are not enough", z.view(w[0], w[1], w[2]), 0);
+            Kit.due("nothing is said", z.says(0, 1), 0);
+        }
+        Kit.due("all three", z.view(2, 4, 8), 1);
+        Kit.due("it is said", z.says(0, 1), 1);
+        z.found(0);
+        Kit.due("it fell out", z.view(2, 4, 8), 0);
+        Kit.sentence("A GROOVE, a POWDER that COUNTS SAYS that the corner's STONE is above the other one.");
+        for (int left = 0; left < 4; left++) {
+            ScratchLadder v = Kit.stones(2);
+            Kit.row(v, 1, 0, 0, 0, 0, left, 0);
+            Kit.due("what was left: " + left, v.says(1, 0), left == 1 || left == 2 ? 1 : 0);
+            Kit.due("not the other", v.says(0, 1), 0);
+        }
     }
 
     private static void says() {
