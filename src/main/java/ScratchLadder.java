@@ -567,13 +567,13 @@ public final class ScratchLadder {
 
     private int whatIsLeftBy(int hand) {
         boolean isCut = question.holds(CLAUSE_CUTS);
-        if (now.slipOf[hand] > 0 && now.draw(100) < now.slipOf[hand]) {
+        if (now.drawsBelow(now.slipOf[hand])) {
             isCut = !isCut;
         }
         if (isCut) {
             return question.holds(CLAUSE_BOTH) ? BOTH : GROOVE;
         }
-        return now.dustOf[hand] > 0 && now.draw(100) < now.dustOf[hand] ? POWDER : NOTHING;
+        return now.drawsBelow(now.dustOf[hand]) ? POWDER : NOTHING;
     }
 
     private boolean areTwo(int a, int b) {
@@ -613,6 +613,7 @@ public final class ScratchLadder {
         int law = NONE;
         int texts = 0;
         final Text[] written = new Text[MAX_TEXTS];
+        private final Text noLaw = new Text(new int[0], new int[0]);
         int trials = 0;
         final int[] columns = new int[MAX_TRIALS * COLUMNS];
         int facesSeen = (1 << FACES) - 1;
@@ -676,14 +677,19 @@ public final class ScratchLadder {
             return knownAs[names[stone]];
         }
 
-        int draw(int n) {
+        /** Whether a DRAW of 100 is below a number; for 0 nothing is drawn. */
+        boolean drawsBelow(int number) {
+            if (number < 1) {
+                return false;
+            }
             drawn = (drawn * 1103 + 12345) % 1000003;
-            return drawn % n;
+            return drawn % 100 < number;
         }
 
-        /** The LAW; null without one. */
+        /** The LAW; without one a TEXT of no CLAUSES, so that nothing HOLDS and there are no rungs. */
         Text lawText() {
-            return within(law, 0, texts - 1) ? written[law] : null;
+            Text told = within(law, 0, texts - 1) ? written[law] : null;
+            return told == null ? noLaw : told;
         }
 
         boolean canBeTrial(int[] told) {
@@ -1194,9 +1200,6 @@ public final class ScratchLadder {
         /** Whether a CLAUSE of a kind without a SUM HOLDS. */
         boolean holds(int kind) {
             Text law = bench.lawText();
-            if (law == null) {
-                return false;
-            }
             for (int clause = 0; clause < law.clauseCount(); clause++) {
                 if (law.clause(clause, Text.KIND) == kind && testOf(law, clause) == 1) {
                     return true;
@@ -1208,9 +1211,6 @@ public final class ScratchLadder {
         /** What the last CLAUSE of a kind with a SUM that HOLDS tells. */
         int lastTold(int kind) {
             Text law = bench.lawText();
-            if (law == null) {
-                return 0;
-            }
             for (int clause = law.clauseCount() - 1; clause >= 0; clause--) {
                 if (law.clause(clause, Text.KIND) == kind && testOf(law, clause) == 1) {
                     long sum = worked(law.steps, law.clause(clause, Text.SUM_AT),
@@ -1608,7 +1608,7 @@ public final class ScratchLadder {
         int numberBelow(int stone) {
             Text law = bench.lawText();
             int greatest = 0;
-            for (int clause = 0; clause < clausesOf(law); clause++) {
+            for (int clause = 0; clause < law.clauseCount(); clause++) {
                 if (isRung(law, clause) && ties.isOver(stone, stoneOf(law, clause))) {
                     greatest = Math.max(greatest, numberOf(law, clause));
                 }
@@ -1620,7 +1620,7 @@ public final class ScratchLadder {
         int numberAbove(int stone) {
             Text law = bench.lawText();
             int least = BEYOND_RUNGS;
-            for (int clause = 0; clause < clausesOf(law); clause++) {
+            for (int clause = 0; clause < law.clauseCount(); clause++) {
                 if (isRung(law, clause) && ties.isOver(stoneOf(law, clause), stone)) {
                     least = Math.min(least, numberOf(law, clause));
                 }
@@ -1634,12 +1634,12 @@ public final class ScratchLadder {
             int low = numberBelow(stone);
             int high = numberAbove(stone);
             int between = 0;
-            for (int clause = 0; clause < clausesOf(law); clause++) {
+            for (int clause = 0; clause < law.clauseCount(); clause++) {
                 if (isBetween(law, clause, low, high, stone)) {
                     between++;
                 }
             }
-            for (int clause = 0; clause < clausesOf(law); clause++) {
+            for (int clause = 0; clause < law.clauseCount(); clause++) {
                 if (isBetween(law, clause, low, high, stone)
                         && aheadOf(law, clause, low, stone) == (between - 1) / 2) {
                     return stoneOf(law, clause);
@@ -1652,7 +1652,7 @@ public final class ScratchLadder {
         private int aheadOf(Text law, int rung, int low, int stone) {
             int number = numberOf(law, rung);
             int ahead = 0;
-            for (int clause = 0; clause < clausesOf(law); clause++) {
+            for (int clause = 0; clause < law.clauseCount(); clause++) {
                 int high = clause < rung ? number + 1 : number;
                 if (isBetween(law, clause, low, high, stone)) {
                     ahead++;
@@ -1664,10 +1664,6 @@ public final class ScratchLadder {
         private boolean isBetween(Text law, int clause, int low, int high, int stone) {
             return isRung(law, clause) && stoneOf(law, clause) != stone
                     && numberOf(law, clause) > low && numberOf(law, clause) < high;
-        }
-
-        private static int clausesOf(Text law) {
-            return law == null ? 0 : law.clauseCount();
         }
 
         private boolean isRung(Text law, int clause) {
